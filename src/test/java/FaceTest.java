@@ -68,12 +68,17 @@ public final class FaceTest {
         for (Method method : GaleNames.class.getDeclaredMethods()) {
             due.is(method.getName() + " is there twice", seen.add(method.getName()) ? 0 : 1, 0);
         }
+        for (Class<?> nested : GaleNames.class.getDeclaredClasses()) {
+            for (Method method : nested.getDeclaredMethods()) {
+                due.is(nested + " has a name of the face, " + method, seen.contains(method.getName()) ? 1 : 0, 0);
+            }
+        }
     }
 
     private static void sameNames(String what, List<String> got, String[] want) {
         Set<String> names = new TreeSet<>(got);
-        Set<String> due1 = new TreeSet<>(Arrays.asList(want));
-        if (!names.equals(due1)) System.out.println(names + " for " + due1);
-        due.is(what, names.equals(due1) ? 1 : 0, 1);
+        Set<String> wanted = new TreeSet<>(Arrays.asList(want));
+        if (!names.equals(wanted)) System.out.println(names + " for " + wanted);
+        due.is(what, names.equals(wanted) ? 1 : 0, 1);
     }
 }

@@ -182,10 +182,23 @@ public final class ViewsTest {
         for (String name : names) Due.namesake(x, name);
         int[] order = {5, 3, 2, 6, 8, 7, 1, 4, 0};
         for (int rank = 0; rank < order.length; rank++) due.is("ranked(" + rank + ")", x.ranked(rank), order[rank]);
+        rankedFirst();
         due.is("ranked(9)", x.ranked(9), NO_SUCH);
         due.is("ranked(-1)", x.ranked(-1), NO_SUCH);
         due.is("ranked(highest)", x.ranked(Integer.MAX_VALUE), NO_SUCH);
         due.is("ranked(lowest)", x.ranked(Integer.MIN_VALUE), NO_SUCH);
+    }
+
+    /** The name that came first is neither the first nor the last one. */
+    private static void rankedFirst() {
+        GaleNames x = new GaleNames();
+        Due.fill(x, 0, 0, "bb,aa,zz,bbb");
+        int[] order = {1, 0, 3, 2};
+        for (int rank = 0; rank < order.length; rank++) due.is("ranked(" + rank + ")", x.ranked(rank), order[rank]);
+        x.storm(0);
+        x.harm(0, 30);
+        x.endYear();
+        due.is("ranked(1) that is retired", x.ranked(1), 0);
     }
 
     private static void sign() {
