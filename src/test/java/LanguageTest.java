@@ -10,8 +10,8 @@ public final class LanguageTest {
     private static final String[] REFUSED = {
         "\\bimport\\b", "\\bpackage\\b", "\\bthrows?\\b", "\\btry\\b", "\\bcatch\\b", "\\bfinally\\b",
         "\\bsynchronized\\b", "\\bassert\\b", "\\bprotected\\b", "\\bvolatile\\b", "\\bnative\\b", "->", "::",
-        "\\bequals\\s*\\(", "\\bhashCode\\b", "\\btoString\\b", "Exact\\b", "\\bstatic\\s*\\{", "\"", "@",
-        "\\bObject\\b", "\\bdouble\\b", "\\bfloat\\b", "[^\\x00-\\x7f]", "\\bstatic (?!final\\b)[^(;{]*;"
+        "\\bequals\\s*\\(", "\\bhashCode\\b", "\\btoString\\b", "Exact\\b", "\\bstatic\\s*\\{", "@",
+        "\\bObject\\b", "[^\\x00-\\x7f]", "\\bstatic (?!final\\b)[^(;{]*;"
     };
     private static final int LONGEST_METHOD = 60;
     private static final Due due = new Due();
